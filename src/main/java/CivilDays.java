@@ -467,7 +467,7 @@ public final class CivilDays {
             if (!isYear(year) || !isMonth(month) || !isWeekday(weekday)) {
                 return NONE;
             }
-            // No month has a weekday six times; this also keeps 7 * n small.
+            // No month has a weekday six times, and 7 * n must not wrap around into the month.
             if (n == 0 || n < -5 || n > 5) {
                 return NONE;
             }

@@ -28,8 +28,15 @@ final class Check {
         try {
             return String.valueOf(call.answer());
         } catch (RuntimeException e) {
-            return "throws " + e.getClass().getName();
+            return "throws " + e.getClass().getName() + thrownInLibrary(e);
         }
+    }
+
+    /** Only a throw statement of the class's own is due, so one of the library's is a fault. */
+    private static String thrownInLibrary(RuntimeException e) {
+        StackTraceElement[] trace = e.getStackTrace();
+        String place = trace.length > 0 ? trace[0].getClassName() : "";
+        return place.startsWith("java.") || place.startsWith("jdk.") ? " in " + place : "";
     }
 
     static void tell(String what, String got, String want) {

@@ -130,6 +130,8 @@ public final class DatesTest {
             {2024, 5, 1, -6}, {2024, 5, 0, 1}, {2024, 5, 8, 1}, {2024, 0, 1, 1}, {2024, 13, 1, 1},
             {0, 5, 1, 1}, {10000, 1, 1, 1}, {2024, 5, 3, Integer.MAX_VALUE},
             {2024, 5, 3, Integer.MIN_VALUE}, {2024, 5, Integer.MIN_VALUE, 1},
+            // 7 times these wraps around to a few days in 32 bits.
+            {2024, 5, 3, 613566758}, {2024, 5, 3, -613566758},
             {2024, Integer.MAX_VALUE, 1, 1}, {Integer.MIN_VALUE, 5, 1, 1},
         };
         for (int[] d : none) {
@@ -187,6 +189,10 @@ public final class DatesTest {
         allTold(x, 737058, 2018, 12, 31, 1, 2019, 1, 365, 0, 31, 52);
         x.civil(0, 1900, 2, 28);
         allTold(x, 693653, 1900, 2, 28, 3, 1900, 9, 59, 0, 28, 52);
+        x.civil(0, 2023, 3, 1);
+        allTold(x, 738579, 2023, 3, 1, 3, 2023, 9, 60, 0, 31, 52);
+        x.civil(0, 2000, 12, 31);
+        allTold(x, 730484, 2000, 12, 31, 7, 2000, 52, 366, 1, 31, 52);
         x.days(0, LAST);
         allTold(x, LAST, 9999, 12, 31, 5, 9999, 52, 365, 0, 31, 52);
         Check.refused("8 what 11", Check.NO_ARGUMENT, () -> x.told(0, 11));

@@ -202,6 +202,10 @@ public final class HolidaysTest {
         x.days(3, 4000);
         Check.same("15 4000 days", x.work(2, 3), 2858 - 8);
         Check.same("15 4000 days back", x.work(3, 2), -(2858 - 8));
+        x.civil(4, 2021, 12, 27);
+        x.civil(5, 2023, 1, 9);
+        x.holiday(3, 1, 1, 0);
+        Check.same("15 over two years' ends", x.work(4, 5), 270 - 1 - 1 - 1);
         x.days(3, 4001);
         Check.refused("15 4001 days", Check.NO_ARGUMENT, () -> x.work(2, 3));
         Check.refused("15 4001 days back", Check.NO_ARGUMENT, () -> x.work(3, 2));
@@ -246,9 +250,23 @@ public final class HolidaysTest {
         Check.same("16 to the last day", x.moveWork(0, 1), LAST);
         Check.refused("16 from the last day", Check.NO_ROOM, () -> x.moveWork(0, 1));
         Check.same("16 nowhere from the last day", x.moveWork(0, 0), LAST);
+        walksOverNewYear(x);
+    }
+
+    private static void walksOverNewYear(CivilDays x) {
         x.holiday(3, 1, 1, 0);
         x.civil(0, 2021, 12, 30);
         Check.same("16 over a holiday of the next year", x.moveWork(0, 1), x.civil(1, 2022, 1, 3));
         Check.same("16 back over it", x.moveWork(0, -1), x.civil(1, 2021, 12, 30));
+        x.civil(0, 2018, 12, 31);
+        Check.same("16 over January 1", x.moveWork(0, 1), x.civil(1, 2019, 1, 2));
+        Check.same("16 back over January 1", x.moveWork(0, -1), x.civil(1, 2018, 12, 31));
+        x.noHoliday(0);
+        x.holiday(3, 12, 31, 0);
+        x.civil(0, 2017, 12, 29);
+        Check.same("16 over a holiday of the last year", x.moveWork(0, 1), x.civil(1, 2018, 1, 2));
+        Check.same("16 back over that", x.moveWork(0, -1), x.civil(1, 2017, 12, 29));
+        x.civil(0, 1, 1, 2);
+        Check.same("16 no holiday from a year 0", x.moveWork(0, -1), 0);
     }
 }

@@ -1,9 +1,11 @@
 import java.time.DayOfWeek;
 import java.time.LocalDate;
+import java.time.Year;
 import java.time.YearMonth;
 import java.time.temporal.ChronoUnit;
 import java.time.temporal.IsoFields;
 import java.util.ArrayList;
+import java.util.Arrays;
 import java.util.List;
 import java.util.regex.Matcher;
 import java.util.regex.Pattern;
@@ -218,7 +220,7 @@ final class Model {
     }
 
     int clear() {
-        java.util.Arrays.fill(slots, null);
+        Arrays.fill(slots, null);
         rules.clear();
         written = "";
         typed = "";
@@ -264,14 +266,13 @@ final class Model {
         if (year < 1 || year > 9999) {
             return null;
         }
-        for (LocalDate d = LocalDate.of(year, 1, 1).minusDays(4); d.getYear() <= year + 1; d = d.plusDays(1)) {
+        LocalDate start = LocalDate.of(year, 1, 1).minusDays(4);
+        for (int i = 0; i < 380; i++) {
+            LocalDate d = start.plusDays(i);
             if (d.get(IsoFields.WEEK_BASED_YEAR) == year
                     && d.get(IsoFields.WEEK_OF_WEEK_BASED_YEAR) == week
                     && d.getDayOfWeek().getValue() == weekday) {
                 return d.isAfter(LAST) ? null : d;
-            }
-            if (d.getYear() == year + 1 && d.getDayOfYear() > 7) {
-                break;
             }
         }
         return null;
@@ -356,7 +357,7 @@ final class Model {
         if (text == 1) {
             return weekDate(year, second, Integer.parseInt(m.group(3)));
         }
-        boolean fine = year >= 1 && second >= 1 && second <= java.time.Year.of(year).length();
+        boolean fine = year >= 1 && second >= 1 && second <= Year.of(year).length();
         return fine ? LocalDate.ofYearDay(year, second) : null;
     }
 }
