@@ -9,10 +9,20 @@ final class Check {
     static final Class<? extends RuntimeException> NO_STATE = IllegalStateException.class;
     static final Class<? extends RuntimeException> NO_ROOM = UnsupportedOperationException.class;
 
+    private static final int MOST_PRINTED = 50;
+
     private static int right = 0;
     private static int wrong = 0;
 
     private Check() {
+    }
+
+    static int right() {
+        return right;
+    }
+
+    static int wrong() {
+        return wrong;
     }
 
     static void same(String what, long got, long want) {
@@ -20,7 +30,11 @@ final class Check {
     }
 
     static void refused(String what, Class<? extends RuntimeException> want, Call call) {
-        tell(what, outcome(call), "throws " + want.getName());
+        tell(what, outcome(call), thrown(want));
+    }
+
+    static String thrown(Class<? extends RuntimeException> kind) {
+        return "throws " + kind.getName();
     }
 
     /** The answer of a call, or the very class that it throws. */
@@ -28,7 +42,7 @@ final class Check {
         try {
             return String.valueOf(call.answer());
         } catch (RuntimeException e) {
-            return "throws " + e.getClass().getName() + thrownInLibrary(e);
+            return thrown(e.getClass()) + thrownInLibrary(e);
         }
     }
 
@@ -42,11 +56,15 @@ final class Check {
     static void tell(String what, String got, String want) {
         if (got.equals(want)) {
             right++;
-            return;
+        } else {
+            fault(what + " answered " + got + ", due is " + want);
         }
+    }
+
+    static void fault(String what) {
         wrong++;
-        if (wrong <= 50) {
-            System.out.println(what + " answered " + got + ", due is " + want);
+        if (wrong <= MOST_PRINTED) {
+            System.out.println(what);
         }
     }
 

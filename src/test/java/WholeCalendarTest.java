@@ -11,12 +11,16 @@ public final class WholeCalendarTest {
         CivilDays x = new CivilDays();
         int number = 0;
         for (LocalDate d = FIRST; !d.isAfter(LAST); d = d.plusDays(1)) {
+            // Nothing is promised of an object behind its 512th call, and a day takes 13.
+            if (d.getDayOfMonth() == 1) {
+                x = new CivilDays();
+            }
             oneDay(x, number, d);
             number++;
         }
         Check.same("so many days", number, 3652059);
         for (int year = 1583; year <= 9999; year++) {
-            Check.same("easter " + year, x.easter(0, year), numberOf(Model.easterOf(year)));
+            Check.same("easter " + year, new CivilDays().easter(0, year), numberOf(Model.easterOf(year)));
         }
         Check.finish();
     }
