@@ -1,9 +1,14 @@
+import java.io.IOException;
 import java.lang.reflect.Constructor;
 import java.lang.reflect.Field;
 import java.lang.reflect.Method;
 import java.lang.reflect.Modifier;
+import java.nio.file.Files;
+import java.nio.file.Path;
 import java.util.Arrays;
 import java.util.TreeSet;
+import java.util.regex.Matcher;
+import java.util.regex.Pattern;
 
 /** The class shows the document's face, with what each call throws, and nothing else. */
 public final class FaceTest {
@@ -35,7 +40,9 @@ public final class FaceTest {
         "void clear()",
     };
 
-    public static void main(String[] args) {
+    private static final Pattern FACE = Pattern.compile("(?ms)^public final class CivilDays \\{\n(.*?)^\\}$");
+
+    public static void main(String[] args) throws IOException {
         Check.tell("the class", Modifier.toString(CivilDays.class.getModifiers()), "public final");
         Check.tell("methods", visibleMethods().toString(),
                 new TreeSet<>(Arrays.asList(METHODS)).toString());
@@ -46,7 +53,31 @@ public final class FaceTest {
                     String.valueOf(Modifier.isStatic(inside.getModifiers())), "true");
         }
         Check.same("NONE", CivilDays.NONE, -1);
+        if (args.length > 0 && Files.isRegularFile(Path.of(args[0]))) {
+            Check.tell("the face that this test wants", wantedFace().toString(),
+                    documentsFace(Files.readString(Path.of(args[0]))).toString());
+        }
         Check.finish();
+    }
+
+    private static TreeSet<String> wantedFace() {
+        TreeSet<String> wanted = new TreeSet<>(Arrays.asList(METHODS));
+        wanted.add("static final int NONE = -1");
+        wanted.add("CivilDays()");
+        return wanted;
+    }
+
+    /** The document's face, written as METHODS is: without the names of the parameters. */
+    private static TreeSet<String> documentsFace(String document) {
+        TreeSet<String> found = new TreeSet<>();
+        Matcher face = FACE.matcher(document);
+        if (face.find()) {
+            for (String line : face.group(1).split("\n")) {
+                found.add(line.strip().replaceAll("^public |;$", "").replaceAll("int \\w+([,)])", "int$1")
+                        .replace(" throws ", " ").replaceAll("Exception, ", "Exception "));
+            }
+        }
+        return found;
     }
 
     private static boolean isVisible(int modifiers) {
